@@ -556,7 +556,7 @@ public final class ChartroomSpc {
         }
 
         private static int pushed(int bits, boolean isSet, int kept) {
-            return (bits << 1 | (isSet ? 1 : 0)) & (1 << kept) - 1;
+            return ((bits << 1) | (isSet ? 1 : 0)) & ((1 << kept) - 1);
         }
 
         int brokenRules() {

@@ -536,7 +536,16 @@ public final class PromiseTests {
         dueSignals("7 rising", rules(3), -2, -1, 0, 1, 2, 3, 4);
         dueSignals("6 rising behind a fall", rules(3), 5, -2, -1, 0, 1, 2, 3);
         dueSignals("5 rising behind an equal one", 0, -2, -2, -1, 0, 1, 2);
-        dueSignals("two the same", 0, -2, -1, 0, 0, 1, 2, 3);
+        for (int step = 1; step < 6; step++) {
+            int[] same = {-2, -1, 0, 1, 2, 3};
+            int[] fall = same.clone();
+            for (int i = step; i < 6; i++) {
+                same[i] -= 1;
+                fall[i] -= 2;
+            }
+            dueSignals("6 rising, but the same at step " + step, 0, same);
+            dueSignals("6 rising, but a fall at step " + step, 0, fall);
+        }
         dueSignals("the last two the same", 0, -2, -1, 0, 1, 2, 2);
         dueSignals("a fall at last", 0, -2, -1, 0, 1, 2, 1);
     }
@@ -547,6 +556,13 @@ public final class PromiseTests {
         dueSignals("15 in turn", rules(4, 7), 1, 0, 1, 0, 1, 0, 1, 0, 1, 0, 1, 0, 1, 0, 1);
         dueSignals("14 in turn with 2 the same at first", 0, 0, 0, 1, 0, 1, 0, 1, 0, 1, 0, 1, 0, 1, 0);
         dueSignals("14 in turn with 2 the same at last", 0, 1, 0, 1, 0, 1, 0, 1, 0, 1, 0, 1, 0, 1, 1);
+        for (int step = 1; step < 14; step++) {
+            int[] same = new int[14];
+            for (int i = 0; i < 14; i++) {
+                same[i] = (i < step ? i : i - 1) % 2;
+            }
+            dueSignals("14 in turn, but the same at step " + step, 0, same);
+        }
         dueSignals("14 with a rise of two", 0, 1, 0, 1, 0, 1, -1, 0, 1, 0, 1, 0, 1, 0, 1);
         dueSignals("14 in turn behind a rise of two", rules(4, 7), 0, 1, 2, 1, 2, 1, 2, 1, 2, 1, 2, 1, 2, 0, 2);
         dueSignals("14 in turn behind two the same", rules(4, 7), 1, 1, 0, 1, 0, 1, 0, 1, 0, 1, 0, 1, 0, 1, 0);
@@ -588,6 +604,11 @@ public final class PromiseTests {
             one[i] = one[i] > 0 ? 95 : -95;
             dueSignals("one beyond 1 at " + i, 0, one);
         }
+        int[] behindFar = new int[16];
+        behindFar[0] = 95;
+        System.arraycopy(near, 0, behindFar, 1, 15);
+        dueSignals("15 near behind a far one", rules(7), behindFar);
+        dueSignals("14 near behind a far one", 0, java.util.Arrays.copyOf(behindFar, 15));
         dueSignals("16 near", rules(7), 0, 94, 94, -94, -94, 94, 94, -94, -94, 94, 94, -94, -94, 94, 94, -94);
     }
 
@@ -600,6 +621,14 @@ public final class PromiseTests {
             one[i] = one[i] > 0 ? 94 : -94;
             dueSignals("one not beyond 1 at " + i, 0, one);
         }
+        ChartroomSpc x = frozenDesk(far);
+        due("8 far: alarms", x.alarms(), 1);
+        dueSignals("8 far, asked first", x, 9, rules(8));
+        dueSignals("the first of them, asked then", x, 2, 0);
+        x.newPhase();
+        put(x, 0, 75);
+        dueSignals("the first of another phase, asked then", x, 10, 0);
+        due("8 far and another phase: alarms", x.alarms(), 1);
         dueSignals("8 far behind a near one", rules(8), 0, 95, 95, -95, -95, 95, 95, -95, -95);
     }
 
@@ -684,6 +713,7 @@ public final class PromiseTests {
         due("three alarms", x.alarms(), 3);
         x.exclude(2, 1);
         due("two alarms", x.alarms(), 2);
+        due("alarms from the first subgroup on", desk(2, 10, 12, 10, 12, 10, 12, 30, 32).alarms(), 4);
         x.newPhase();
         put(x, 0, 75, -75, 0);
         x.freeze(1);
@@ -793,6 +823,10 @@ public final class PromiseTests {
             long spread = floorOf(6000000, divisors[size - 2]);
             due("capability at size " + size, desk(size, values).capability(0, -7, 9, false),
                     floorOf(16000000, 6 * spread));
+            values[0] = 100;
+            spread = floorOf(100000000, divisors[size - 2]);
+            due("the widest at size " + size, desk(size, values).capability(0, -9999, 9999, false),
+                    floorOf(19998000000L, 6 * spread));
         }
         // center 3000, mean range 6000, d is 5319
         ChartroomSpc x = desk(2, 0, 6);
