@@ -5,6 +5,7 @@ import java.util.Random;
 /** Long runs of calls, the class beside a slow model that follows the words of the document. */
 public final class ModelTests {
     private static final int DESKS = 600;
+    private static final int EDGE_DESKS = 400;
     private static final int CALLS = 512;
 
     private static int wrong = 0;
@@ -12,7 +13,11 @@ public final class ModelTests {
     public static void main(String[] args) {
         int[] broken = new int[9];
         for (int i = 0; i < DESKS; i++) {
-            runDesk(new Random(i), i, broken);
+            runDesk(new Random(i), i, false, broken);
+        }
+        int[] brokenAtEdges = new int[9];
+        for (int i = DESKS; i < DESKS + EDGE_DESKS; i++) {
+            runDesk(new Random(i), i, true, brokenAtEdges);
         }
         for (int rule = 1; rule <= 8; rule++) {
             if (broken[rule] < 100) {
@@ -21,13 +26,13 @@ public final class ModelTests {
             }
         }
         System.out.println("rules broken: " + java.util.Arrays.toString(broken));
-        System.out.println(DESKS + " desks of " + CALLS + " calls, " + wrong + " wrong answers");
+        System.out.println(DESKS + EDGE_DESKS + " desks of " + CALLS + " calls, " + wrong + " wrong answers");
         if (wrong != 0) {
             System.exit(1);
         }
     }
 
-    private static void runDesk(Random random, int desk, int[] broken) {
+    private static void runDesk(Random random, int desk, boolean isAtEdges, int[] broken) {
         ChartroomSpc x = new ChartroomSpc();
         Model model = new Model();
         Feed feed = new Feed(random);
@@ -40,7 +45,8 @@ public final class ModelTests {
         StringBuilder log = new StringBuilder();
         for (int call = 0; call < CALLS; call++) {
             boolean isPut = isFilling && call < 200 || random.nextInt(3) == 0;
-            Ask ask = isPut ? new Ask(1, feed.next(model.size), 0, 0, false) : anyAsk(random, model);
+            Ask ask = isPut ? new Ask(1, isAtEdges ? pick(random, EDGE_VALUES) : feed.next(model.size), 0, 0, false)
+                    : isAtEdges ? edgeAsk(random, model) : anyAsk(random, model);
             String got = ask.answer(x);
             String want = ask.answer(model);
             log.append(ask).append(" -> ").append(got).append('\n');
@@ -91,6 +97,36 @@ public final class ModelTests {
                     ? new Ask(24, phase, lowest, highest, random.nextBoolean())
                     : new Ask(23, subgroup, 0, 0, random.nextBoolean());
             default: return new Ask(kind, subgroup, 0, 0, false);
+        }
+    }
+
+    private static final int MIN = Integer.MIN_VALUE;
+    private static final int MAX = Integer.MAX_VALUE;
+    private static final int[] EDGE_VALUES = {-9999, -9999, -9998, -1, 0, 0, 0, 1, 9998, 9999, 9999, -10000, 10000,
+        MIN, MAX};
+    private static final int[] EDGE_BOUNDS = {-9999, -9998, -1, 0, 1, 9998, 9999, -10000, 10000, MIN, MAX};
+    private static final int[] EDGE_REASONS = {0, 0, 0, 0, 1, 9, -1, 10, MIN, MAX};
+
+    private static int pick(Random random, int... from) {
+        return from[random.nextInt(from.length)];
+    }
+
+    /** A call as of anyAsk, but its arguments are such as a range ends with, or one beyond. */
+    private static Ask edgeAsk(Random random, Model model) {
+        Ask ask = anyAsk(random, model);
+        int done = model.groups.size();
+        int phases = model.firsts.size();
+        int subgroup = pick(random, 0, 1, done - 2, done - 1, done - 1, done, done + 1, -1, 59, 60, MIN, MAX);
+        int phase = pick(random, 0, 0, phases - 1, phases - 1, phases, phases + 1, -1, 9, 10, MIN, MAX);
+        switch (ask.kind) {
+            case 0: return new Ask(0, pick(random, 1, 2, 2, 6, 7, -1, 0, MIN, MAX), 0, 0, false);
+            case 2: case 7: case 8: case 20: return ask;
+            case 3: case 4: case 12: case 13: case 14: case 15: return new Ask(ask.kind, phase, 0, 0, false);
+            case 5: return new Ask(5, subgroup, pick(random, EDGE_REASONS), 0, false);
+            case 18: return new Ask(18, subgroup, pick(random, 1, 2, 3, 4, 5, 6, 7, 8, 0, 9, -1, MIN, MAX), 0, false);
+            case 21: return new Ask(21, pick(random, 1, 2, 10, 0, 11, -1, MIN, MAX), 0, 0, false);
+            case 24: return new Ask(24, phase, pick(random, EDGE_BOUNDS), pick(random, EDGE_BOUNDS), ask.flag);
+            default: return new Ask(ask.kind, subgroup, 0, 0, ask.flag);
         }
     }
 

@@ -1,148 +1,38 @@
 /** Each promise of the document by hand: ordinary inputs, the edges that it names, and wrong inputs. */
-public final class PromiseTests {
-    private static final Class<?> INDEX = IndexOutOfBoundsException.class;
-    private static final Class<?> ARGUMENT = IllegalArgumentException.class;
-    private static final Class<?> STATE = IllegalStateException.class;
-
-    private static int wrong = 0;
-    private static int checked = 0;
-
-    private interface Call {
-        void run();
-    }
-
+public final class PromiseTests extends DeskChecks {
     public static void main(String[] args) {
-        promise1NewObject();
-        promise2Begin();
-        promise3Put();
-        promise4NewPhase();
-        promise5Freeze();
-        promise6Thaw();
-        promise7Exclude();
-        promises8And9Counts();
-        promises10And11MeanAndRange();
-        promise12PhaseOf();
-        promise13Points();
-        promise14Center();
-        promise15Width();
-        promise16RangeLimit();
-        promises17To19Rule1();
-        promises17To19Rule2();
-        promises17To19Rule3();
-        promises17To19Rule4();
-        promises17To19Rule5();
-        promises17To19Rule6();
-        promises17To19Rule7();
-        promises17To19Rule8();
-        promises17To19PointsAndPhases();
-        promises17To19WrongInputs();
-        promise20IsWide();
-        promise21Alarms();
-        promise22SetWeight();
-        promise23Weighted();
-        promise24Cumulative();
-        promise25Capability();
-        System.out.println(checked + " checks, " + wrong + " wrong");
-        if (wrong != 0) {
-            System.exit(1);
-        }
+        test("promise1NewObject", PromiseTests::promise1NewObject);
+        test("promise2Begin", PromiseTests::promise2Begin);
+        test("promise3Put", PromiseTests::promise3Put);
+        test("promise4NewPhase", PromiseTests::promise4NewPhase);
+        test("promise5Freeze", PromiseTests::promise5Freeze);
+        test("promise6Thaw", PromiseTests::promise6Thaw);
+        test("promise7Exclude", PromiseTests::promise7Exclude);
+        test("promises8And9Counts", PromiseTests::promises8And9Counts);
+        test("promises10And11MeanAndRange", PromiseTests::promises10And11MeanAndRange);
+        test("promise12PhaseOf", PromiseTests::promise12PhaseOf);
+        test("promise13Points", PromiseTests::promise13Points);
+        test("promise14Center", PromiseTests::promise14Center);
+        test("promise15Width", PromiseTests::promise15Width);
+        test("promise16RangeLimit", PromiseTests::promise16RangeLimit);
+        test("promises17To19Rule1", PromiseTests::promises17To19Rule1);
+        test("promises17To19Rule2", PromiseTests::promises17To19Rule2);
+        test("promises17To19Rule3", PromiseTests::promises17To19Rule3);
+        test("promises17To19Rule4", PromiseTests::promises17To19Rule4);
+        test("promises17To19Rule5", PromiseTests::promises17To19Rule5);
+        test("promises17To19Rule6", PromiseTests::promises17To19Rule6);
+        test("promises17To19Rule7", PromiseTests::promises17To19Rule7);
+        test("promises17To19Rule8", PromiseTests::promises17To19Rule8);
+        test("promises17To19PointsAndPhases", PromiseTests::promises17To19PointsAndPhases);
+        test("promises17To19WrongInputs", PromiseTests::promises17To19WrongInputs);
+        test("promise20IsWide", PromiseTests::promise20IsWide);
+        test("promise21Alarms", PromiseTests::promise21Alarms);
+        test("promise22SetWeight", PromiseTests::promise22SetWeight);
+        test("promise23Weighted", PromiseTests::promise23Weighted);
+        test("promise24Cumulative", PromiseTests::promise24Cumulative);
+        test("promise25Capability", PromiseTests::promise25Capability);
+        finish();
     }
-
-    // ---- helpers
-
-    private static void due(String what, long got, long want) {
-        checked++;
-        if (got != want) {
-            wrong++;
-            System.out.println(what + " answered " + got + ", due is " + want);
-        }
-    }
-
-    private static void due(String what, boolean got, boolean want) {
-        due(what, got ? 1 : 0, want ? 1 : 0);
-    }
-
-    private static void dueThrows(String what, Class<?> want, Call call) {
-        checked++;
-        Class<?> got = null;
-        try {
-            call.run();
-        } catch (RuntimeException e) {
-            got = e.getClass();
-        }
-        if (got != want) {
-            wrong++;
-            System.out.println(what + " threw " + got + ", due is " + want);
-        }
-    }
-
-    private static void put(ChartroomSpc x, int... values) {
-        for (int value : values) {
-            x.put(value);
-        }
-    }
-
-    private static ChartroomSpc desk(int size, int... values) {
-        ChartroomSpc x = new ChartroomSpc();
-        x.begin(size);
-        put(x, values);
-        return x;
-    }
-
-    /** Puts subgroups of 2 with the given sums and range 0 or 1; a sum of h has the mean 500 * h. */
-    private static void halves(ChartroomSpc x, int... sums) {
-        for (int sum : sums) {
-            int lesser = Math.floorDiv(sum, 2);
-            put(x, lesser, sum - lesser);
-        }
-    }
-
-    /**
-     * Size 2, frozen with the center 0 and the width 141000: beyond 1, 2, 3 is more than 94, 188, 282
-     * halves. Its first two subgroups are excluded, so the points begin with the subgroup 2.
-     */
-    private static ChartroomSpc frozenDesk(int... sums) {
-        ChartroomSpc x = desk(2, 0, 75, -75, 0);
-        x.freeze(0);
-        x.exclude(0, 1);
-        x.exclude(1, 1);
-        halves(x, sums);
-        return x;
-    }
-
-    private static int rules(int... rules) {
-        int set = 0;
-        for (int rule : rules) {
-            set |= 1 << rule;
-        }
-        return set;
-    }
-
-    private static final int[] POINTS_OF_RULES = {0, 1, 9, 6, 14, 3, 5, 15, 8};
-
-    /** For desks whose points have no gaps up to the subgroup. */
-    private static void dueSignals(String what, ChartroomSpc x, int subgroup, int want) {
-        due(what + ": signals(" + subgroup + ")", x.signals(subgroup), want);
-        due(what + ": signalsByWindows(" + subgroup + ")", x.signalsByWindows(subgroup), want);
-        for (int rule = 1; rule <= 8; rule++) {
-            boolean isBroken = (want >> rule & 1) == 1;
-            due(what + ": firstOf(" + subgroup + ", " + rule + ")", x.firstOf(subgroup, rule),
-                    isBroken ? subgroup - POINTS_OF_RULES[rule] + 1 : ChartroomSpc.NONE);
-        }
-    }
-
-    private static void dueSignals(String what, int want, int... sums) {
-        ChartroomSpc x = frozenDesk(sums);
-        dueSignals(what, x, x.subgroups() - 1, want);
-        int[] mirrored = new int[sums.length];
-        for (int i = 0; i < sums.length; i++) {
-            mirrored[i] = -sums[i];
-        }
-        ChartroomSpc y = frozenDesk(mirrored);
-        dueSignals(what + ", mirrored", y, y.subgroups() - 1, want);
-    }
-
-    // ---- the promises
 
     private static void promise1NewObject() {
         due("NONE", ChartroomSpc.NONE, -1);
@@ -293,10 +183,6 @@ public final class PromiseTests {
         put(x, 1, 3);
         due("the next phase is not frozen", x.center(1), 2000);
         dueThrows("thaw(1)", STATE, () -> x.thaw(1));
-    }
-
-    private static long floorOf(long dividend, long divisor) {
-        return Math.floorDiv(dividend, divisor);
     }
 
     private static void promise6Thaw() {
