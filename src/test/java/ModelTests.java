@@ -6,7 +6,8 @@ import java.util.Random;
 public final class ModelTests {
     private static final int DESKS = 600;
     private static final int EDGE_DESKS = 400;
-    private static final int CALLS = 512;
+    /** One less than an object is used for, as a begin may be ahead of them. */
+    private static final int CALLS = 511;
 
     private static int wrong = 0;
 
